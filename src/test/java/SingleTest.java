@@ -1,0 +1,44 @@
+/** Functions of one argument: every format, function, code and rounding, with the flags (promises 10 and 13). */
+public final class SingleTest {
+    private static final int MOST_CALLS = 500;
+    private final Tally tally = new Tally();
+    private Ulphouse house;
+    private int calls;
+
+    public static void main(String[] args) {
+        SingleTest test = new SingleTest();
+        for (int exponents = 2; exponents <= 4; exponents++) {
+            for (int fractions = 1; fractions <= 6; fractions++) {
+                test.all(exponents, fractions);
+            }
+        }
+        test.tally.close("SingleTest");
+    }
+
+    private void all(int exponents, int fractions) {
+        Oracle oracle = new Oracle(exponents, fractions);
+        calls = MOST_CALLS;
+        for (char function : Oracle.SINGLES.toCharArray()) {
+            for (int code = 0; code < oracle.size(); code++) {
+                for (char rounding : Oracle.ROUNDINGS.toCharArray()) {
+                    if (calls + 4 > MOST_CALLS) {
+                        house = new Ulphouse();
+                        house.format(exponents, fractions);
+                        calls = 1;
+                    }
+                    ask(oracle, function, code, rounding);
+                    calls += 3;
+                }
+            }
+        }
+    }
+
+    private void ask(Oracle oracle, char function, int code, char rounding) {
+        String what = "(" + oracle.exponents + "," + oracle.fractions + ") " + function + " " + code + " " + rounding;
+        oracle.flags = 0;
+        int want = oracle.one(function, code, rounding);
+        tally.due("one " + what, house.one(0, function, code, rounding), want);
+        tally.due("oneAnew " + what, house.oneAnew(0, function, code, rounding), want);
+        tally.due("flags of one " + what, house.clearFlags(), oracle.flags);
+    }
+}
