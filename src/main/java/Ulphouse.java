@@ -214,7 +214,18 @@ public final class Ulphouse {
         if (!row.isFinite(own)) {
             throw new ArithmeticException("a code of the row is not finite");
         }
-        return row.total(own, how, rounding, truth);
+        switch (how) {
+            case 'p':
+                return row.plainly(own, truth);
+            case 'c':
+                return row.carefully(own, truth);
+            case 'e':
+                truth.total(row.exactly(own), 12);
+                return truth.rounded(own, rounding);
+            default:
+                truth.total(row.dot(own), 24);
+                return truth.rounded(own, rounding);
+        }
     }
 
     public int digit(int format, int code, int other, int index)
@@ -286,7 +297,7 @@ public final class Ulphouse {
         Format other = formatAt(wide);
         needFunction(function);
         needWider(own, other);
-        return hard.unsure(own, other, function, single);
+        return hard.countQuick(own, other, function, false, single);
     }
 
     public int wrong(int format, int wide, char function) throws IndexOutOfBoundsException, IllegalArgumentException {
@@ -294,7 +305,7 @@ public final class Ulphouse {
         Format other = formatAt(wide);
         needFunction(function);
         needWider(own, other);
-        return hard.twiceRoundedAmiss(own, other, function, single);
+        return hard.countQuick(own, other, function, true, single);
     }
 
     // ---- tables, lines, polynomials
@@ -578,8 +589,8 @@ public final class Ulphouse {
 
         /** For infinite, the amount that would follow the greatest finite one: limits are told by it. */
         int amount(int code) {
-            int exponent = bare(code) >> fractions;
-            int part = bare(code) & ((1 << fractions) - 1);
+            int exponent = (code & (minus - 1)) >> fractions;
+            int part = code & ((1 << fractions) - 1);
             int shift = 13 - bias - fractions;
             return exponent == 0 ? part << shift : ((1 << fractions) + part) << (shift + exponent - 1);
         }
@@ -1161,7 +1172,8 @@ public final class Ulphouse {
             truth.unpack(kept[at], scaleOf(function));
             int from = widest.bare(truth.rounded(widest, 'z'));
             int code = truth.rounded(widest, 'n');
-            return code == anew.answerFrom(widest, function, row == ROWS - 1 ? -amount : amount, 'n', from);
+            anew.take(function, row < LETTERS.length ? amount : -amount);
+            return code == anew.answerFrom(widest, 'n', from);
         }
     }
 
@@ -1179,12 +1191,12 @@ public final class Ulphouse {
             if (Single.isSpecial(format, function, code, own)) {
                 return own.rounded(format, rounding);
             }
-            return answerFrom(format, function, format.signed(code), rounding, 0);
+            take(function, format.signed(code));
+            return answerFrom(format, rounding, 0);
         }
 
-        /** From a bare code whose value is not above the result's amount on; -1 if it is above. */
-        int answerFrom(Format format, char function, int argument, char rounding, int from) {
-            take(function, argument);
+        /** For what was taken, from a bare code on whose value is not above the result's amount; -1 if it is. */
+        int answerFrom(Format format, char rounding, int from) {
             int below = from;
             if (side(2L * format.amount(below)) < 0) {
                 return -1;
@@ -1216,7 +1228,7 @@ public final class Ulphouse {
         }
 
         /** Roots and quotients are compared by powers and products, the others are worked out by other means. */
-        private void take(char function, int argument) {
+        void take(char function, int argument) {
             this.function = function;
             amount = Math.abs(argument);
             switch (function) {
@@ -1335,20 +1347,22 @@ public final class Ulphouse {
         static void ask(Format format, char function, int a, int b, Truth into) {
             if (function == 'p') {
                 raise(format, a, b, into);
-            } else if (function == 'h' && (format.isInfinite(a) || format.isInfinite(b))) {
-                into.infinite(false, 0);
-            } else if (format.isNone(a) || format.isNone(b)) {
-                into.none(0);
-            } else if (function == '+') {
-                total(format, a, b, into);
-            } else if (function == '-') {
-                total(format, a, b ^ format.minus, into);
-            } else if (function == '*') {
-                product(format, a, b, into);
             } else if (function == '/') {
                 quotient(format, a, b, into);
+            } else if (function == 'h') {
+                hypotenuse(format, a, b, into);
             } else {
-                hypotenuse(format.amount(a), format.amount(b), into);
+                totalOrProduct(format, function, a, b, into);
+            }
+        }
+
+        private static void totalOrProduct(Format format, char function, int a, int b, Truth into) {
+            if (format.isNone(a) || format.isNone(b)) {
+                into.none(0);
+            } else if (function == '*') {
+                product(format, a, b, into);
+            } else {
+                total(format, a, function == '-' ? b ^ format.minus : b, into);
             }
         }
 
@@ -1386,7 +1400,9 @@ public final class Ulphouse {
 
         private static void quotient(Format format, int a, int b, Truth into) {
             boolean isMinus = format.isMinus(a) != format.isMinus(b);
-            if ((format.isInfinite(a) && format.isInfinite(b)) || (format.isZero(a) && format.isZero(b))) {
+            if (format.isNone(a) || format.isNone(b)) {
+                into.none(0);
+            } else if ((format.isInfinite(a) && format.isInfinite(b)) || (format.isZero(a) && format.isZero(b))) {
                 into.none(Truth.INVALID);
             } else if (format.isInfinite(a)) {
                 into.infinite(isMinus, 0);
@@ -1399,11 +1415,17 @@ public final class Ulphouse {
             }
         }
 
-        private static void hypotenuse(long a, long b, Truth into) {
-            if (a == 0 && b == 0) {
+        private static void hypotenuse(Format format, int a, int b, Truth into) {
+            if (format.isInfinite(a) || format.isInfinite(b)) {
+                into.infinite(false, 0);
+            } else if (format.isNone(a) || format.isNone(b)) {
+                into.none(0);
+            } else if (format.isZero(a) && format.isZero(b)) {
                 into.zero(false);
             } else {
-                Fixed.root(a * a + b * b, 1L << 24, into);
+                long first = format.amount(a);
+                long second = format.amount(b);
+                Fixed.root(first * first + second * second, 1L << 24, into);
             }
         }
 
@@ -1522,8 +1544,9 @@ public final class Ulphouse {
             into.scaled(isMinus, Fixed.twoTo(fraction), 60, (int) (exponent >> 48), true);
         }
 
+        /** A sum, a difference or a product by 'n'. */
         static int nearest(Format format, char function, int a, int b, Truth scratch) {
-            ask(format, function, a, b, scratch);
+            totalOrProduct(format, function, a, b, scratch);
             return scratch.rounded(format, 'n');
         }
 
@@ -1597,22 +1620,7 @@ public final class Ulphouse {
             return true;
         }
 
-        int total(Format own, char how, char rounding, Truth scratch) {
-            switch (how) {
-                case 'p':
-                    return plainly(own, scratch);
-                case 'c':
-                    return carefully(own, scratch);
-                case 'e':
-                    scratch.total(exactly(own), 12);
-                    return scratch.rounded(own, rounding);
-                default:
-                    scratch.total(dot(own), 24);
-                    return scratch.rounded(own, rounding);
-            }
-        }
-
-        private int plainly(Format own, Truth scratch) {
+        int plainly(Format own, Truth scratch) {
             int total = 0;
             for (int i = 0; i < count; i++) {
                 total = Pair.nearest(own, '+', total, codes[i], scratch);
@@ -1620,7 +1628,7 @@ public final class Ulphouse {
             return total;
         }
 
-        private int carefully(Format own, Truth scratch) {
+        int carefully(Format own, Truth scratch) {
             int total = 0;
             int left = 0;
             for (int i = 0; i < count; i++) {
@@ -1639,7 +1647,7 @@ public final class Ulphouse {
             return Pair.nearest(own, '+', total, left, scratch);
         }
 
-        private long exactly(Format own) {
+        long exactly(Format own) {
             long total = 0;
             for (int i = 0; i < count; i++) {
                 total += own.signed(codes[i]);
@@ -1647,7 +1655,7 @@ public final class Ulphouse {
             return total;
         }
 
-        private long dot(Format own) {
+        long dot(Format own) {
             long total = 0;
             for (int i = 0; i + 1 < count; i += 2) {
                 total += (long) own.signed(codes[i]) * own.signed(codes[i + 1]);
@@ -1696,53 +1704,37 @@ public final class Ulphouse {
             return found;
         }
 
-        /** The wide answer of a narrow code by 'n', without its sign; -1 if the code does not count. */
-        private int wideAnswer(Format narrow, Format wide, char function, int code, Single single) {
-            if (!narrow.isFinite(code)) {
-                return -1;
-            }
-            single.ask(narrow, function, code, truth);
-            int answer = truth.rounded(wide, 'n');
-            return wide.isFinite(answer) && !wide.isZero(answer) ? wide.bare(answer) : -1;
-        }
-
-        private int bareOf(Format format, int amount) {
-            truth.total(amount, 12);
-            return truth.rounded(format, 'n');
-        }
-
-        private boolean isSure(Format narrow, Format wide, int answer) {
-            if (answer >= wide.infinite - 1) {
-                return false;
-            }
-            int amount = wide.amount(answer);
-            int step = wide.amount(answer + 1) - amount;
-            return bareOf(narrow, amount - step) == bareOf(narrow, amount + step);
-        }
-
-        int unsure(Format narrow, Format wide, char function, Single single) {
+        /** How many of the codes that count have a quick answer that is wrong, or is not surely right. */
+        int countQuick(Format narrow, Format wide, char function, boolean isWrongAsked, Single single) {
             int found = 0;
             for (int code = 0; code < narrow.size(); code++) {
-                int answer = wideAnswer(narrow, wide, function, code, single);
-                if (answer >= 0 && !isSure(narrow, wide, answer)) {
-                    found++;
-                }
-            }
-            return found;
-        }
-
-        int twiceRoundedAmiss(Format narrow, Format wide, char function, Single single) {
-            int found = 0;
-            for (int code = 0; code < narrow.size(); code++) {
-                int answer = wideAnswer(narrow, wide, function, code, single);
-                if (answer >= 0) {
+                if (narrow.isFinite(code)) {
+                    single.ask(narrow, function, code, truth);
                     int once = narrow.bare(truth.rounded(narrow, 'n'));
-                    if (once != bareOf(narrow, wide.amount(answer))) {
+                    int answer = truth.rounded(wide, 'n');
+                    boolean counts = wide.isFinite(answer) && !wide.isZero(answer);
+                    // signs agree in any case: what is rounded to 0 keeps its sign
+                    if (counts && (isWrongAsked ? once != bareOf(narrow, wide.amount(answer))
+                            : !isSure(narrow, wide, wide.bare(answer)))) {
                         found++;
                     }
                 }
             }
             return found;
+        }
+
+        private boolean isSure(Format narrow, Format wide, int bare) {
+            if (bare >= wide.infinite - 1) {
+                return false;
+            }
+            int amount = wide.amount(bare);
+            int step = wide.amount(bare + 1) - amount;
+            return bareOf(narrow, amount - step) == bareOf(narrow, amount + step);
+        }
+
+        private int bareOf(Format format, int amount) {
+            truth.total(amount, 12);
+            return truth.rounded(format, 'n');
         }
 
         boolean hasLine(Format format, char function, int from, int to, Single single) {

@@ -1,9 +1,6 @@
 /** Functions of one argument: every format, function, code and rounding, with the flags (promises 10 and 13). */
 public final class SingleTest {
-    private static final int MOST_CALLS = 500;
     private final Tally tally = new Tally();
-    private Ulphouse house;
-    private int calls;
 
     public static void main(String[] args) {
         SingleTest test = new SingleTest();
@@ -17,23 +14,17 @@ public final class SingleTest {
 
     private void all(int exponents, int fractions) {
         Oracle oracle = new Oracle(exponents, fractions);
-        calls = MOST_CALLS;
+        Houses houses = new Houses(exponents, fractions);
         for (char function : Oracle.SINGLES.toCharArray()) {
             for (int code = 0; code < oracle.size(); code++) {
                 for (char rounding : Oracle.ROUNDINGS.toCharArray()) {
-                    if (calls + 4 > MOST_CALLS) {
-                        house = new Ulphouse();
-                        house.format(exponents, fractions);
-                        calls = 1;
-                    }
-                    ask(oracle, function, code, rounding);
-                    calls += 3;
+                    ask(houses.forCalls(3), oracle, function, code, rounding);
                 }
             }
         }
     }
 
-    private void ask(Oracle oracle, char function, int code, char rounding) {
+    private void ask(Ulphouse house, Oracle oracle, char function, int code, char rounding) {
         String what = "(" + oracle.exponents + "," + oracle.fractions + ") " + function + " " + code + " " + rounding;
         oracle.flags = 0;
         int want = oracle.one(function, code, rounding);

@@ -450,8 +450,18 @@ final class Oracle {
         if (isMinus(a) && !isWhole) {
             return raise(16, none);
         }
-        BigDecimal result = exp2(y.multiply(single('l', value(a).abs())).round(EXACT));
+        BigDecimal result = powerOf(value(a).abs(), y);
         return round(isMinus ? result.negate() : result, rounding);
+    }
+
+    private static BigDecimal powerOf(BigDecimal x, BigDecimal y) {
+        String key = x.stripTrailingZeros() + "^" + y.stripTrailingZeros();
+        BigDecimal found = REMEMBERED.get(key);
+        if (found == null) {
+            found = exp2(y.multiply(single('l', x)).round(EXACT));
+            REMEMBERED.put(key, found);
+        }
+        return found;
     }
 
     /** By 'n', without flags. */
