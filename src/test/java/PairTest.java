@@ -16,6 +16,7 @@ public final class PairTest {
         for (int[] format : LARGE) {
             test.somePairs(new Oracle(format[0], format[1]));
         }
+        test.everyFused(new Oracle(2, 1));
         for (int[] format : SMALL) {
             test.someFused(new Oracle(format[0], format[1]));
         }
@@ -136,15 +137,30 @@ public final class PairTest {
             int b = random.nextInt(8) == 0 ? edge(oracle) : random.nextInt(oracle.size());
             int c = random.nextInt(4) == 0 ? edge(oracle) : random.nextInt(oracle.size());
             char rounding = rounding();
-            oracle.flags = 0;
             int near = oracle.near('*', a, b);
             c = random.nextInt(4) == 0 ? oracle.signed(!oracle.isMinus(near), oracle.bare(near)) : c;
-            int want = oracle.fused(a, b, c, rounding);
-            Ulphouse house = houses.forCalls(2);
-            String what = name(oracle) + "fused " + a + " " + b + " " + c + " " + rounding;
-            tally.due(what, house.fused(0, a, b, c, rounding), want);
-            tally.due("flags of " + what, house.clearFlags(), oracle.flags);
+            fused(houses, oracle, a, b, c, rounding);
         }
+    }
+
+    private void everyFused(Oracle oracle) {
+        Houses houses = new Houses(oracle.exponents, oracle.fractions);
+        for (int codes = 0; codes < oracle.size() * oracle.size() * oracle.size(); codes++) {
+            int b = codes / oracle.size() % oracle.size();
+            int c = codes / oracle.size() / oracle.size();
+            for (char rounding : Oracle.ROUNDINGS.toCharArray()) {
+                fused(houses, oracle, codes % oracle.size(), b, c, rounding);
+            }
+        }
+    }
+
+    private void fused(Houses houses, Oracle oracle, int a, int b, int c, char rounding) {
+        oracle.flags = 0;
+        int want = oracle.fused(a, b, c, rounding);
+        Ulphouse house = houses.forCalls(2);
+        String what = name(oracle) + "fused " + a + " " + b + " " + c + " " + rounding;
+        tally.due(what, house.fused(0, a, b, c, rounding), want);
+        tally.due("flags of " + what, house.clearFlags(), oracle.flags);
     }
 
     /** Doubles decide where they surely can, and only what they leave is worked out with a hundred digits. */
@@ -224,14 +240,14 @@ public final class PairTest {
     private void convert(Oracle from, Oracle to) {
         Houses houses = new Houses(from.exponents, from.fractions, to.exponents, to.fractions);
         for (int code = 0; code < from.size(); code++) {
-            char rounding = rounding();
-            from.flags = 0;
-            to.flags = 0;
-            int want = from.convert(code, to, rounding);
-            Ulphouse house = houses.forCalls(2);
-            String what = name(from) + name(to) + "convert " + code + " " + rounding;
-            tally.due(what, house.convert(0, code, 1, rounding), want);
-            tally.due("flags of " + what, house.clearFlags(), to.flags);
+            for (char rounding : Oracle.ROUNDINGS.toCharArray()) {
+                to.flags = 0;
+                int want = from.convert(code, to, rounding);
+                Ulphouse house = houses.forCalls(2);
+                String what = name(from) + name(to) + "convert " + code + " " + rounding;
+                tally.due(what, house.convert(0, code, 1, rounding), want);
+                tally.due("flags of " + what, house.clearFlags(), to.flags);
+            }
         }
     }
 }

@@ -32,7 +32,9 @@ final class EdgesOfFunctions {
             powersBelowZero();
             fused();
         }
+        farOff();
         f = new Spec(3, 3);
+        exactPowers();
         roundedOnce();
         promise10();
         promise11();
@@ -451,6 +453,56 @@ final class EdgesOfFunctions {
             s.due(f.house().fused(0, f.one, f.one, f.minus(f.one), rounding), zero);
             s.due(f.house().fused(0, f.greatest, f.minus(f.one), f.greatest, rounding), zero);
         }
+    }
+
+    private void farOff() {
+        s.of("Terms", "'e' 2 to the power of it.");
+        for (int m = 1; m <= 6; m++) {
+            f = new Spec(4, m);
+            for (char rounding : Spec.ROUNDINGS.toCharArray()) {
+                Ulphouse x = f.house();
+                s.due(x.one(0, 'e', f.minus(f.greatest), rounding), rounding == 'u' ? 1 : 0);
+                s.due(x.clearFlags(), 3);
+                s.due(x.oneAnew(0, 'e', f.minus(f.greatest), rounding), rounding == 'u' ? 1 : 0);
+                int top = rounding == 'z' || rounding == 'd' ? f.greatest : f.infinite;
+                s.due(x.one(0, 'e', f.greatest, rounding), top);
+                s.due(x.clearFlags(), 5);
+                s.due(x.oneAnew(0, 'e', f.greatest, rounding), top);
+                s.due(x.two(0, 'p', f.greatest, f.greatest, rounding), top);
+                s.due(x.clearFlags(), 5);
+                s.due(x.two(0, 'p', f.greatest, f.minus(f.greatest), rounding), rounding == 'u' ? 1 : 0);
+                s.due(x.clearFlags(), 3);
+                s.due(x.two(0, 'p', 1, f.greatest, rounding), rounding == 'u' ? 1 : 0);
+                s.due(x.clearFlags(), 3);
+                s.due(x.two(0, 'p', 1, f.minus(f.greatest), rounding), top);
+                s.due(x.clearFlags(), 5);
+            }
+        }
+    }
+
+    /** Of 3 and 3 bits: 8 is 1/4, 16 1/2, 28 3/2, 33 9/4, 36 3, 40 4, 48 8, 49 9. */
+    private void exactPowers() {
+        s.of("Terms", "'p' the first one to the power of the second one");
+        int[][] triples = {{40, 16, 32}, {40, 28, 48}, {8, 16, 16}, {49, 16, 36}, {33, 16, 28}, {40, 80, 16},
+            {8, 80, 32}, {8, 92, 48}, {36, 32, 49}, {28, 32, 33}, {16, 96, 40}, {32, 36, 48}, {16, 42, 1}};
+        for (int[] triple : triples) {
+            two('p', triple[0], triple[1], triple[2], EXACT);
+        }
+        Ulphouse x = f.house();
+        // 9/4 to the power of 3/2 is 27/8, the midpoint of 13/4 and 7/2
+        s.due(x.two(0, 'p', 33, 28, 'n'), 38);
+        s.due(x.two(0, 'p', 33, 28, 'z'), 37);
+        s.due(x.two(0, 'p', 33, 28, 'a'), 38);
+        s.due(x.clearFlags(), 1);
+        Spec wide = new Spec(4, 6);
+        Ulphouse y = wide.house();
+        // 17/16 squared is 72 and a quarter of 64ths, 24/16 to the power of 7 is 17.08
+        s.due(y.two(0, 'p', wide.code(1.0625), wide.code(2), 'n'), wide.code(1.125));
+        s.due(y.clearFlags(), 1);
+        s.due(y.two(0, 'p', wide.code(1.5), wide.code(7), 'd'), wide.code(17));
+        s.due(y.clearFlags(), 1);
+        s.due(y.two(0, 'p', wide.code(1.5), wide.code(4), 'n'), wide.code(5.0625));
+        s.due(y.clearFlags(), 0);
     }
 
     // ---- promises 10 to 14, by the format of 3 and 3 bits: 24 is 1, 55 is 15, 56 infinite, 60 no number

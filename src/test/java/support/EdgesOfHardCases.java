@@ -222,6 +222,15 @@ final class EdgesOfHardCases {
         s.due(x.distance(0, 'e', 39), (int) (65536 * 0.0456568));
         s.due(x.distance(0, 'b', 9), 1116);
         s.due(x.distance(0, 'b', 73), 1116);
+        // of 4 and 1 bits 4 and 6 are next to each other: the logarithm of 32, 5, is their midpoint
+        Spec f = new Spec(4, 1);
+        Ulphouse y = new Ulphouse();
+        y.format(4, 1);
+        s.due(y.distance(0, 'l', f.code(32)), 0);
+        s.due(y.place(0, 'l', f.code(32), 0), f.code(32));
+        s.due(y.distance(0, 'l', f.code(128)), 0);
+        s.due(y.hardest(0, 'l'), f.code(1.0 / 128));
+        s.due(y.distance(0, 'l', f.code(1.0 / 128)), 0);
     }
 
     private void hardestOfAll() {

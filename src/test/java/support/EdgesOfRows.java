@@ -248,6 +248,14 @@ final class EdgesOfRows {
         sums('d', of(0, 1, 0, 1, 0), 1, 16);
         sums('d', of(1), 1, 16, 1, 16);
         sums('d', of(24), 55, 55, 119, 55, 24, 24);
+        // what a longer row left behind does not count, either
+        Ulphouse x = row(32, 36, 40, 48);
+        x.empty();
+        x.add(0, 24);
+        s.due(x.sum('d', 'n'), 0);
+        x.add(0, 24);
+        x.add(0, 55);
+        s.due(x.sum('d', 'n'), 24);
     }
 
     private void promises16And17() {

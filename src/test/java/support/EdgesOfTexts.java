@@ -197,6 +197,11 @@ final class EdgesOfTexts {
         // of 4 and 3 bits 100 is the midpoint of 96 and 104
         shortest(house(4, 3), 108, 1, 2);
         shortest(house(4, 3), 109, 104, 0);
+        // of 4 and 2 bits 30 is the midpoint of 28 and 32, 60 that of 56 and 64: both go up, to the even one
+        shortest(house(4, 2), 47, 28, 0);
+        shortest(house(4, 2), 48, 3, 1);
+        shortest(house(4, 2), 51, 56, 0);
+        shortest(house(4, 2), 52, 6, 1);
         s.of("Terms", "the one nearest to it, of two the lesser amount.");
         // of 3 and 1 bits 1/4 has the bounds 3/16 and 5/16: 0.2 and 0.3 are as near
         shortest(house(3, 1), 2, 2, -1);
@@ -208,6 +213,9 @@ final class EdgesOfTexts {
         shortest(house(2, 1), 3, 15, -1);
         shortest(house(2, 1), 4, 2, 0);
         shortest(house(2, 1), 1, 5, -1);
+        // of 4 and 6 bits 2 by 4096 is nearer to 0.0005 than to 0.0004 and 0.0006, which are rounded to it, too
+        shortest(wide, 2, 5, -4);
+        shortest(wide, 3, 7, -4);
     }
 
     private void promises31And32() {
