@@ -1045,6 +1045,11 @@ public final class Ulphouse {
             }
             int argument = format.signed(code);
             int at = slot(function, argument);
+            if (at < 0 || at >= kept.length) {
+                // no function and no amount of a format comes here: the index is looked at all the same
+                into.none(0);
+                return;
+            }
             if (kept[at] == 0) {
                 workOut(function, argument, into);
                 kept[at] = into.packed();
